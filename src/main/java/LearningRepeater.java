@@ -52,6 +52,7 @@ public final class LearningRepeater {
     private static final int SOURCE = 0;
     private static final int DESTINATION = 1;
     private static final int PRIORITY = 2;
+    // A frame has a number only in a queue, and a port at which it comes in only outside of one.
     private static final int NUMBER = 3;
     private static final int INLET = 3;
     private static final int PARTS = 4;
@@ -74,7 +75,6 @@ public final class LearningRepeater {
         history = new History();
         text = new Text();
         arrivals = new Arrivals();
-        hasSnapshot = false;
     }
 
     // ---- ports and cables
@@ -716,6 +716,7 @@ public final class LearningRepeater {
 
     /** Frames that are about to come in, with the port of each. */
     private static final class Arrivals {
+        // No port sends more in a second than its queue holds, and a text has room for 12 frames at most.
         private static final int MOST = PORTS * PLACES;
         private final Row parts = new Row(MOST * PARTS);
         private int size;

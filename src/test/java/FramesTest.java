@@ -17,6 +17,8 @@ public final class FramesTest {
         movesAgeAndOutliveEntries();
         tableIsFull();
         queues();
+        queuesAreApart();
+        firstPortAndLastAddress();
         frameIsAnAct();
         forget();
         passSends();
@@ -265,6 +267,87 @@ public final class FramesTest {
         checks.due("flood over a full queue", x.frame(1, 2, 0, 0), 3);
         checks.due("account(0, 8)", x.account(0, 8), 2);
         checks.due("queued(2, 0, 3)", x.queued(2, 0, 3), 12);
+    }
+
+    private static void queuesAreApart() {
+        checks.promise("promise 7, queues");
+        LearningRepeater x = new LearningRepeater();
+        x.frame(0, 1, 1, 0);
+        x.frame(1, 2, 2, 0);
+        x.frame(7, 70, 70, 0);
+        x.frame(3, 9, 2, 1);
+        x.frame(3, 8, 70, 2);
+        for (int k = 0; k < 12; k++) {
+            x.frame(3, 20 + k % 4, 1, 0);
+        }
+        checks.due("port(0, 5)", x.port(0, 5), 12);
+        checks.due("port(1, 5)", x.port(1, 5), 1);
+        checks.due("queued(1, 0, 0)", x.queued(1, 0, 0), 9);
+        checks.due("queued(1, 0, 1)", x.queued(1, 0, 1), 2);
+        checks.due("queued(1, 0, 2)", x.queued(1, 0, 2), 1);
+        checks.due("queued(1, 0, 3)", x.queued(1, 0, 3), 0);
+        x.pass(1);
+        for (int place = 0; place < 8; place++) {
+            checks.due("queued(0, " + place + ", 0)", x.queued(0, place, 0), 20 + place % 4);
+        }
+        checks.due("queued(0, 8, 0)", x.queued(0, 8, 0), NONE);
+        checks.due("port(1, 5)", x.port(1, 5), 0);
+        for (int k = 0; k < 12; k++) {
+            checks.due("frame to the last port", x.frame(3, 9, 70, k % 4), 2);
+        }
+        checks.due("queued(7, 0, 2)", x.queued(7, 0, 2), 3);
+        checks.due("queued(7, 11, 2)", x.queued(7, 11, 2), 0);
+    }
+
+    private static void firstPortAndLastAddress() {
+        checks.promise("promises 7 and 9, port 0 and address 99");
+        LearningRepeater x = new LearningRepeater();
+        x.set(0, 2);
+        x.frame(0, 99, 0, 0);
+        checks.due("port(0, 6)", x.port(0, 6), 1);
+        checks.due("count(10)", x.count(10), 1);
+        x.pass(2);
+        checks.due("where(99), as it is too old", x.where(99), NONE);
+        checks.due("count(5)", x.count(5), 0);
+        x.set(2, 1);
+        x.frame(0, 99, 0, 0);
+        checks.due("frame(0, 99, 0, 0)", x.frame(0, 99, 0, 0), 5);
+        checks.due("where(99), as its port is in quarantine", x.where(99), NONE);
+        checks.due("count(7)", x.count(7), 1);
+        checks.due("count(10)", x.count(10), 3);
+        x.pass(10);
+        x.pass(10);
+        x.pass(9);
+        checks.due("port(0, 2)", x.port(0, 2), 1);
+        checks.due("count(7)", x.count(7), 1);
+        x.pass(1);
+        checks.due("count(7)", x.count(7), 0);
+
+        x = new LearningRepeater();
+        x.set(2, 50);
+        x.frame(7, 99, 0, 0);
+        x.pass(1);
+        for (int address = 1; address <= 20; address++) {
+            checks.due("where(99)", x.where(99), 7);
+            x.frame(6, address, 0, 0);
+        }
+        checks.due("where(99), the oldest", x.where(99), NONE);
+        x.frame(5, 2, 0, 0);
+        x.frame(4, 2, 0, 0);
+        x.frame(5, 20, 0, 0);
+        int[] moved = {0, 2, 0};
+        for (int entry = 0; entry < 3; entry++) {
+            checks.due("entry(" + entry + ", 3)", x.entry(entry, 3), moved[entry]);
+        }
+        checks.due("entry(19, 3)", x.entry(19, 3), 1);
+        x.frame(0, 99, 0, 0);
+        x.frame(1, 99, 0, 0);
+        checks.due("entry(19, 0)", x.entry(19, 0), 99);
+        checks.due("entry(19, 3)", x.entry(19, 3), 1);
+        x.pass(9);
+        x.frame(0, 2, 0, 0);
+        checks.due("where(2), that has moved a third time", x.where(2), NONE);
+        checks.due("port(0, 3), for three moves", x.port(0, 3), 1);
     }
 
     private static void frameIsAnAct() {

@@ -144,6 +144,12 @@ public final class TextsTest {
         fault("*>1@0", 0);
         fault(" 1>1@0", 0);
         fault("x", 0);
+        fault(":", 0);
+        fault("/", 0);
+        fault("1:", 1);
+        fault("1/", 1);
+        fault("1>:", 2);
+        fault("1>2:", 3);
         fault("1", 1);
         fault("12", 2);
         fault("123>1@0", 2);
