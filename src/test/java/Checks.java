@@ -53,36 +53,12 @@ final class Checks {
         same("what is told after " + call, told(with), told(without));
     }
 
-    /** All that an object tells, in less calls than the document allows to an object. */
     static String told(LearningRepeater x) {
-        StringBuilder all = new StringBuilder();
-        for (int what = 0; what <= 14; what++) {
-            all.append(x.count(what)).append(' ');
-        }
-        all.append('l').append(x.loops());
-        for (int port = 0; port < 8; port++) {
-            all.append(" | p").append(port);
-            for (int what = 0; what <= 7; what++) {
-                all.append(' ').append(x.port(port, what));
-            }
-            all.append(" a");
-            for (int what = 0; what <= 10; what++) {
-                all.append(' ').append(x.account(port, what));
-            }
-            for (int place = 0; x.queued(port, place, 3) != LearningRepeater.NONE; place++) {
-                all.append(" q");
-                for (int what = 0; what <= 3; what++) {
-                    all.append(' ').append(x.queued(port, place, what));
-                }
-            }
-        }
-        for (int entry = 0; entry < x.count(5); entry++) {
-            all.append(" | e");
-            for (int what = 0; what <= 3; what++) {
-                all.append(' ').append(x.entry(entry, what));
-            }
-        }
-        return all.toString();
+        return new Told(x).all();
+    }
+
+    static String toldButHistory(LearningRepeater x) {
+        return new Told(x).butHistory();
     }
 
     /** Types the text and answers the length that is told last. */

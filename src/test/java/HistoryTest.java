@@ -74,18 +74,11 @@ public final class HistoryTest {
         }
     }
 
-    private static String withoutHistory(LearningRepeater x) {
-        String told = Checks.told(x);
-        String[] words = told.split(" ");
-        words[13] = "-";
-        return String.join(" ", words);
-    }
-
     private static void undoBringsBackAll() {
         checks.promise("promise 13");
         LearningRepeater as = new LearningRepeater();
         busy(as);
-        String before = withoutHistory(as);
+        String before = Checks.toldButHistory(as);
         LearningRepeater x = new LearningRepeater();
         busy(x);
         x.pass(10);
@@ -95,12 +88,12 @@ public final class HistoryTest {
         for (int left = 3; left >= 0; left--) {
             checks.due("undo()", x.undo(), left);
         }
-        checks.same("what is told after undo()", withoutHistory(x), before);
+        checks.same("what is told after undo()", Checks.toldButHistory(x), before);
         checks.due("frame(6, 5, 0, 0), with the moves as they were", x.frame(6, 5, 0, 0), as.frame(6, 5, 0, 0));
         checks.due("frame(2, 5, 0, 0)", x.frame(2, 5, 0, 0), as.frame(2, 5, 0, 0));
         x.pass(10);
         as.pass(10);
-        checks.same("what is told later", withoutHistory(x), withoutHistory(as));
+        checks.same("what is told later", Checks.toldButHistory(x), Checks.toldButHistory(as));
     }
 
     private static void fourStates() {
@@ -170,14 +163,14 @@ public final class HistoryTest {
         checks.refused("restore()", HistoryTest::busy, LearningRepeater::restore, NONE);
         LearningRepeater as = new LearningRepeater();
         busy(as);
-        String before = withoutHistory(as);
+        String before = Checks.toldButHistory(as);
         LearningRepeater x = new LearningRepeater();
         busy(x);
         checks.due("keep()", x.keep(), 1);
-        checks.same("what is told after keep()", withoutHistory(x), before);
+        checks.same("what is told after keep()", Checks.toldButHistory(x), before);
         different(x);
         checks.due("restore()", x.restore(), 1);
-        checks.same("what is told after restore()", withoutHistory(x), before);
+        checks.same("what is told after restore()", Checks.toldButHistory(x), before);
         checks.due("frame(6, 5, 0, 0), with the moves as they were", x.frame(6, 5, 0, 0), as.frame(6, 5, 0, 0));
         checks.due("frame(2, 5, 0, 0)", x.frame(2, 5, 0, 0), as.frame(2, 5, 0, 0));
     }
