@@ -36,6 +36,23 @@ final class Edges {
         return new Run(checks).calls(format, values);
     }
 
+    /** 12 frames wait at each port p, from 11 + (p + 1) % 8 to 1 + p, each of the sources at a port of its own. */
+    static Run fillAllQueues(Run run) {
+        for (int port = 0; port < 8; port++) {
+            run.calls("frame(%1$d, %2$d, %2$d, 0)=1", port, 1 + port);
+        }
+        for (int number = 0; number < 96; number++) {
+            int from = (number + 1) % 8;
+            run.calls("frame(%d, %d, %d, %d)=2", from, 11 + from, 1 + number % 8, priority(number));
+        }
+        return run;
+    }
+
+    /** That of the frame that gets this number in fillAllQueues(). */
+    static int priority(int number) {
+        return (number / 8 * 7 + number % 8) % 4;
+    }
+
     void due(String call, int got, int want) {
         checks.due(call, got, want);
     }

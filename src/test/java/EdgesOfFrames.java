@@ -96,7 +96,8 @@ final class EdgesOfFrames {
     private void order() {
         e.sentence(IN, "When a frame comes in at a port, the following happens in this order:");
         // Step 1 before step 2.
-        e.run(MOVED_TWICE + "setPort(3, false)=7 frame(3, 1, 1, 0)=0 where(1)=2 entry(0, 3)=2 count(11)=0 port(3, 3)=0");
+        e.run(MOVED_TWICE + "setPort(3, false)=7 frame(3, 1, 1, 0)=0 where(1)=2 entry(0, 3)=2 count(11)=0"
+                + " port(3, 3)=0");
         // Step 2 before step 4: for moves, though it would be filtered, come to a dead end, go out of one port.
         e.run(MOVED_TWICE + "frame(3, 1, 1, 0)=4");
         e.run(MOVED_TWICE + "frame(5, 5, 5, 0)=1 setPort(5, false)=7 frame(3, 1, 5, 0)=4 account(3, 6)=0");
@@ -132,15 +133,19 @@ final class EdgesOfFrames {
         e.run("frame(0, 1, 1, 0)=1 entry(0, 3)=0 frame(0, 1, 1, 0)=1 entry(0, 3)=0 frame(1, 1, 1, 0)=1 entry(0, 3)=1"
                 + " frame(1, 1, 1, 0)=1 entry(0, 3)=1 frame(0, 1, 1, 0)=1 entry(0, 3)=2");
         e.run("frame(0, 1, 1, 0)=1 forget(1)=0 frame(1, 1, 1, 0)=1 entry(0, 3)=0");
-        for (int moved = 5; moved <= 99; moved += 10) {
-            Run run = e.run("frame(3, %1$d, %1$d, 0)=1 frame(4, %1$d, %1$d, 0)=1", moved);
-            for (int address = 1; address <= 19; address++) {
-                run.calls("frame(0, %1$d, %1$d, 0)=1", address == moved ? 20 : address);
-            }
-            run.calls("count(5)=20");
-            for (int entry = 0; entry < 20; entry++) {
-                int address = Integer.parseInt(run.answers("entry(" + entry + ", 0)").strip());
-                run.calls("entry(%d, 3)=%d", entry, address == moved ? 1 : 0);
+        int[] addresses = {1, 2, 3, 10, 11, 49, 50, 51, 89, 90, 97, 98, 99};
+        for (int moved : addresses) {
+            for (int second = 0; second <= 10; second += 5) {
+                Run run = e.run("").seconds(second).calls("frame(3, %1$d, %1$d, 0)=1 frame(4, %1$d, %1$d, 0)=1", moved);
+                for (int address : addresses) {
+                    run.calls("frame(%1$d, %2$d, %2$d, 0)=1", address == moved ? 4 : 0, address);
+                }
+                for (int passed = 0; passed <= 11; passed++) {
+                    for (int entry = 0; entry < addresses.length; entry++) {
+                        run.calls("entry(%d, 3)=%d", entry, addresses[entry] == moved && passed < 10 ? 1 : 0);
+                    }
+                    run.calls("pass(1)=0");
+                }
             }
         }
         e.sentence(IN, "the port of the entry becomes this one, its time the present one");
@@ -157,6 +162,9 @@ final class EdgesOfFrames {
         e.run(MOVED_TWICE + "port(1, 1)=1 port(2, 1)=1 count(11)=0 entry(0, 3)=2 frame(3, 1, 1, 0)=4 port(3, 1)=0"
                 + " count(11)=1 frame(4, 1, 1, 0)=1 entry(0, 3)=3 frame(5, 1, 1, 0)=4 port(5, 3)=1 frame(6, 1, 1, 0)=1"
                 + " entry(0, 3)=4");
+        // Only a frame that is a move itself is cut for moves.
+        e.run(MOVED_TWICE + "frame(3, 1, 1, 0)=4 frame(4, 1, 1, 0)=1 frame(4, 1, 1, 0)=1 frame(4, 1, 2, 0)=3"
+                + " port(4, 1)=1 entry(0, 3)=3 count(11)=1");
         for (int start = 0; start <= 11; start++) {
             for (int gap = 0; gap <= 11; gap++) {
                 e.run("").seconds(start).calls(MOVED_TWICE).seconds(gap).calls("entry(0, 3)=%d", gap < 10 ? 2 : 0)
@@ -169,6 +177,13 @@ final class EdgesOfFrames {
                 + " frame(3, 1, 1, 0)=4");
         e.run("frame(0, 1, 1, 0)=1 frame(1, 1, 1, 0)=1 pass(1)=0 frame(2, 1, 1, 0)=1 pass(9)=0 entry(0, 3)=1"
                 + " frame(3, 1, 1, 0)=1 entry(0, 3)=2 pass(1)=0 entry(0, 3)=1");
+        for (int address : new int[] {1, 2, 98, 99}) {
+            String moved = String.format("frame(0, %1$d, %1$d, 0)=1 frame(1, %1$d, %1$d, 0)=1"
+                    + " frame(2, %1$d, %1$d, 0)=1",
+                    address);
+            e.run(moved).seconds(9).calls("frame(3, %1$d, %1$d, 0)=4", address);
+            e.run(moved).seconds(10).calls("frame(3, %1$d, %1$d, 0)=1", address);
+        }
         e.sentence(IN, "the move of this frame counts;");
         e.run("frame(0, 1, 1, 0)=1 frame(1, 1, 1, 0)=1 frame(2, 1, 0, 0)=3 frame(3, 1, 0, 0)=4");
     }
@@ -176,8 +191,8 @@ final class EdgesOfFrames {
     private void removedBetween() {
         e.sentence(IN, "moves are counted for an address, be its entry removed between or not)");
         e.run(MOVED_TWICE + "forget(1)=2 frame(3, 1, 1, 0)=1 entry(0, 3)=2 frame(4, 1, 1, 0)=4");
-        e.run("frame(0, 1, 1, 0)=1 frame(1, 1, 1, 0)=1 forget(1)=1 frame(3, 1, 1, 0)=1 entry(0, 3)=1 frame(4, 1, 1, 0)=1"
-                + " entry(0, 3)=2 frame(5, 1, 1, 0)=4");
+        e.run("frame(0, 1, 1, 0)=1 frame(1, 1, 1, 0)=1 forget(1)=1 frame(3, 1, 1, 0)=1 entry(0, 3)=1"
+                + " frame(4, 1, 1, 0)=1 entry(0, 3)=2 frame(5, 1, 1, 0)=4");
         e.run("set(0, 1)=60 " + MOVED_TWICE + "pass(1)=0 where(1)=NONE frame(3, 1, 1, 0)=1 entry(0, 3)=2"
                 + " frame(4, 1, 1, 0)=4");
         fill(e.run(MOVED_TWICE), 0, 2, 21).calls("where(1)=NONE frame(3, 1, 1, 0)=1 entry(0, 3)=2 frame(4, 1, 1, 0)=4");
@@ -200,8 +215,8 @@ final class EdgesOfFrames {
         e.run("frame(0, 1, 1, 0)=1").seconds(59).calls("frame(0, 1, 1, 0)=1").seconds(59)
                 .calls("where(1)=0 pass(1)=0 where(1)=NONE");
         e.sentence(IN, "If there is no entry for it, there is a new one;");
-        e.run("pass(4) where(1)=NONE frame(5, 1, 0, 0)=3 where(1)=5 entry(0, 2)=0 count(5)=1 frame(5, 2, 1, 0)=1 where(2)=5"
-                + " setPort(5, false)=7 frame(6, 3, 1, 0)=6 where(3)=6 count(5)=3");
+        e.run("pass(4) where(1)=NONE frame(5, 1, 0, 0)=3 where(1)=5 entry(0, 2)=0 count(5)=1 frame(5, 2, 1, 0)=1"
+                + " where(2)=5 setPort(5, false)=7 frame(6, 3, 1, 0)=6 where(3)=6 count(5)=3");
     }
 
     private void fullTable() {
@@ -211,9 +226,11 @@ final class EdgesOfFrames {
         fill(e.run(""), 0, 1, 20).calls("frame(0, 50, 50, 0)=1 count(5)=20 where(1)=NONE where(2)=0 where(50)=0"
                 + " frame(0, 51, 51, 0)=1 count(5)=20 where(2)=NONE where(3)=0");
         fill(e.run("frame(0, 99, 99, 0)=1 pass(1)=0"), 0, 1, 19)
-                .calls("frame(0, 50, 50, 0)=1 where(99)=NONE where(1)=0 frame(0, 51, 51, 0)=1 where(1)=NONE where(2)=0");
+                .calls("frame(0, 50, 50, 0)=1 where(99)=NONE where(1)=0 frame(0, 51, 51, 0)=1 where(1)=NONE"
+                        + " where(2)=0");
         fill(e.run("frame(0, 40, 40, 0)=1 frame(0, 30, 30, 0)=1 pass(1)=0"), 0, 1, 18)
-                .calls("frame(0, 50, 50, 0)=1 where(30)=NONE where(40)=0 frame(0, 51, 51, 0)=1 where(40)=NONE where(1)=0");
+                .calls("frame(0, 50, 50, 0)=1 where(30)=NONE where(40)=0 frame(0, 51, 51, 0)=1 where(40)=NONE"
+                        + " where(1)=0");
         fill(e.run("frame(0, 98, 98, 0)=1 frame(0, 99, 99, 0)=1 pass(1)=0"), 0, 1, 18)
                 .calls("frame(0, 98, 98, 0)=1 frame(0, 50, 50, 0)=1 where(99)=NONE where(98)=0 where(1)=0"
                         + " frame(0, 51, 51, 0)=1 where(1)=NONE where(98)=0");
@@ -255,11 +272,11 @@ final class EdgesOfFrames {
     }
 
     private void storms() {
-        e.sentence(IN, "If as many floods as the setting tells, or more, have come in at this port in the present second"
-                + " already, the port is put in quarantine for a storm, and the frame is cut");
+        e.sentence(IN, "If as many floods as the setting tells, or more, have come in at this port in the present"
+                + " second already, the port is put in quarantine for a storm, and the frame is cut");
         e.run("9*frame(0, 1, 0, 0)=3 port(0, 1)=1 frame(0, 1, 0, 0)=3 port(0, 1)=1 port(0, 3)=0 count(11)=0"
-                + " account(0, 4)=10 count(12)=70 frame(0, 1, 0, 0)=5 port(0, 1)=0 port(0, 2)=30 port(0, 3)=2 count(11)=1"
-                + " account(0, 4)=10 account(0, 5)=1 account(0, 0)=11 count(12)=70 frame(0, 1, 0, 0)=0");
+                + " account(0, 4)=10 count(12)=70 frame(0, 1, 0, 0)=5 port(0, 1)=0 port(0, 2)=30 port(0, 3)=2"
+                + " count(11)=1 account(0, 4)=10 account(0, 5)=1 account(0, 0)=11 count(12)=70 frame(0, 1, 0, 0)=0");
         e.run("set(2, 3)=10 3*frame(0, 1, 0, 0)=3 set(2, 2)=3 frame(0, 1, 0, 0)=5");
         e.run("set(2, 3)=10 2*frame(0, 1, 0, 0)=3 set(2, 2)=3 frame(0, 1, 0, 0)=5");
         e.run("set(2, 3)=10 frame(0, 1, 0, 0)=3 set(2, 2)=3 frame(0, 1, 0, 0)=3 frame(0, 1, 0, 0)=5");
@@ -287,8 +304,8 @@ final class EdgesOfFrames {
                 run.calls("port(%d, 5)=%d", port, 1 - (downs >> port & 1));
             }
         }
-        e.run("set(2, 1)=10 frame(3, 1, 0, 0)=3 frame(3, 1, 0, 0)=5 wouldGo(0, 2, 0)=246 frame(0, 2, 0, 0)=3 port(3, 5)=0"
-                + " port(2, 5)=2 release(3)=30 wouldGo(1, 2, 0)=253");
+        e.run("set(2, 1)=10 frame(3, 1, 0, 0)=3 frame(3, 1, 0, 0)=5 wouldGo(0, 2, 0)=246 frame(0, 2, 0, 0)=3"
+                + " port(3, 5)=0 port(2, 5)=2 release(3)=30 wouldGo(1, 2, 0)=253");
         for (int port = 0; port < 8; port++) {
             e.run("frame(%1$d, 1, 0, 0)=3 port(%1$d, 5)=0 count(9)=7", port);
         }
@@ -301,9 +318,9 @@ final class EdgesOfFrames {
 
     private void fullQueues() {
         e.sentence(IN, "When a frame goes out of a port, it is put into its queue;");
-        e.run("frame(0, 1, 1, 0)=1 frame(1, 2, 1, 1)=2 port(0, 5)=1 queued(0, 0, 0)=2 queued(0, 0, 1)=1 queued(0, 0, 2)=1"
-                + " account(0, 7)=1 frame(3, 9, 0, 2)=3 port(0, 5)=2 queued(0, 0, 0)=9 queued(0, 0, 1)=0"
-                + " queued(0, 1, 0)=2 account(0, 7)=2 port(7, 5)=1 account(7, 7)=1 account(3, 7)=0");
+        e.run("frame(0, 1, 1, 0)=1 frame(1, 2, 1, 1)=2 port(0, 5)=1 queued(0, 0, 0)=2 queued(0, 0, 1)=1"
+                + " queued(0, 0, 2)=1 account(0, 7)=1 frame(3, 9, 0, 2)=3 port(0, 5)=2 queued(0, 0, 0)=9"
+                + " queued(0, 0, 1)=0 queued(0, 1, 0)=2 account(0, 7)=2 port(7, 5)=1 account(7, 7)=1 account(3, 7)=0");
         e.sentence(IN, "if this is full, the frame is dropped there");
         e.run("frame(0, 1, 1, 0)=1 11*frame(1, 2, 1, 0)=2 frame(1, 2, 0, 0)=3 port(0, 5)=12 account(0, 8)=0"
                 + " port(2, 5)=1 frame(1, 3, 0, 0)=3 port(0, 5)=12 account(0, 8)=1 account(0, 7)=12 port(2, 5)=2"
@@ -313,8 +330,8 @@ final class EdgesOfFrames {
     }
 
     private void quarantines() {
-        e.sentence(IN, "When a port is put in quarantine, this lasts until as many seconds have passed as the setting tells"
-                + " (a second that is just passing counts);");
+        e.sentence(IN, "When a port is put in quarantine, this lasts until as many seconds have passed as the setting"
+                + " tells (a second that is just passing counts);");
         for (int seconds = 1; seconds <= 12; seconds++) {
             String set = "set(1, " + seconds + ")=30 set(2, 1)=10 ";
             e.run(set + "frame(3, 1, 0, 0)=3 frame(3, 1, 0, 0)=5 port(3, 2)=%d", seconds).seconds(seconds - 1)
@@ -330,7 +347,8 @@ final class EdgesOfFrames {
                 + " frame(3, 6, 0, 0)=5 where(1)=NONE where(2)=NONE where(6)=NONE where(5)=4 count(5)=1 port(3, 6)=0"
                 + " entry(0, 0)=5 frame(4, 5, 1, 0)=3 release(3)=30 where(1)=NONE");
         e.run("set(2, 1)=10 frame(3, 1, 0, 0)=3 frame(3, 1, 0, 0)=5 where(1)=NONE count(5)=0");
-        fill(e.run("set(2, 1)=10 frame(3, 99, 0, 0)=3"), 3, 1, 19).calls("port(3, 6)=20 frame(3, 99, 0, 0)=5 count(5)=0");
+        fill(e.run("set(2, 1)=10 frame(3, 99, 0, 0)=3"), 3, 1, 19).calls("port(3, 6)=20 frame(3, 99, 0, 0)=5"
+                + " count(5)=0");
         e.run("frame(3, 7, 7, 0)=1 frame(4, 8, 8, 0)=1 " + MOVED_TWICE + "frame(3, 1, 1, 0)=4 where(1)=NONE"
                 + " where(7)=NONE where(8)=4 count(5)=1 port(3, 6)=0 port(2, 6)=0");
         e.sentence(IN, "Its queue stays");
@@ -402,8 +420,9 @@ final class EdgesOfFrames {
         }
         e.run("frame(0, 1, 1, 0)=1 frame(7, 99, 99, 0)=1 forget(1)=0 forget(99)=7 count(5)=0");
         e.sentence("Promise 8", "Removes the entry for an address");
-        e.run("frame(0, 1, 1, 0)=1 frame(0, 2, 2, 0)=1 frame(0, 3, 3, 0)=1 forget(2)=0 where(1)=0 where(2)=NONE where(3)=0"
-                + " count(5)=2 entry(1, 0)=3 entry(2, 0)=NONE port(0, 6)=2 frame(1, 9, 2, 0)=3 frame(1, 9, 3, 0)=2");
+        e.run("frame(0, 1, 1, 0)=1 frame(0, 2, 2, 0)=1 frame(0, 3, 3, 0)=1 forget(2)=0 where(1)=0 where(2)=NONE"
+                + " where(3)=0 count(5)=2 entry(1, 0)=3 entry(2, 0)=NONE port(0, 6)=2 frame(1, 9, 2, 0)=3"
+                + " frame(1, 9, 3, 0)=2");
         e.sentence("Promise 8", "This is an act");
         e.act("frame(5, 99, 99, 0)=1", "forget(99)");
         e.act(Edges.BUSY, "forget(9)");

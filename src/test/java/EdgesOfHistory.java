@@ -9,8 +9,9 @@ final class EdgesOfHistory {
     private static final String THREE = "set(2, 1)=10 join(2, 3)=1 readFrames()=3 keep()=0 count(13)=3 ";
     private static final String THREE_TEXT = "7>*@5;8>*@5;50>50@4";
     private static final String DIFFERENT = " set(0, 1) set(1, 1) set(2, 1) set(3, 1) part(0)=1 join(0, 2) release(4)"
-            + " setPort(7, true) setPort(3, false) frame(2, 5, 0, 0) frame(5, 5, 0, 0) frame(6, 5, 0, 0) frame(5, 77, 0, 3)"
-            + " frame(2, 9, 9, 0) pass(10) frame(7, 9, 0, 0) frame(0, 99, 5, 1) readFrames() pass(3)";
+            + " setPort(7, true) setPort(3, false) frame(2, 5, 0, 0) frame(5, 5, 0, 0) frame(6, 5, 0, 0)"
+            + " frame(5, 77, 0, 3) frame(2, 9, 9, 0) pass(10) frame(7, 9, 0, 0) frame(0, 99, 5, 1) readFrames()"
+            + " pass(3)";
 
     private final Edges e;
 
@@ -35,8 +36,8 @@ final class EdgesOfHistory {
 
     private void fourStates() {
         e.sentence(HISTORY, "A history of at most 4 states is kept");
-        e.run("count(13)=0 set(0, 1)=60 count(13)=1 set(0, 2)=1 count(13)=2 set(0, 3)=2 count(13)=3 set(0, 4)=3 count(13)=4"
-                + " set(0, 5)=4 count(13)=4 set(0, 6)=5 count(13)=4");
+        e.run("count(13)=0 set(0, 1)=60 count(13)=1 set(0, 2)=1 count(13)=2 set(0, 3)=2 count(13)=3 set(0, 4)=3"
+                + " count(13)=4 set(0, 5)=4 count(13)=4 set(0, 6)=5 count(13)=4");
         e.sentence(HISTORY, "when one more is recorded, the oldest one is dropped");
         for (int acts = 0; acts <= 10; acts++) {
             Run run = e.run("");
@@ -54,8 +55,8 @@ final class EdgesOfHistory {
 
     private void undoAmongActs() {
         e.sentence(HISTORY, "undo() removes and restores the latest one");
-        e.run("set(0, 1)=60 set(0, 2)=1 undo()=1 count(0)=1 set(0, 3)=1 count(13)=2 undo()=1 count(0)=1 undo()=0 count(0)=60"
-                + " undo()=NONE set(0, 5)=60 undo()=0 count(0)=60");
+        e.run("set(0, 1)=60 set(0, 2)=1 undo()=1 count(0)=1 set(0, 3)=1 count(13)=2 undo()=1 count(0)=1 undo()=0"
+                + " count(0)=60 undo()=NONE set(0, 5)=60 undo()=0 count(0)=60");
         for (int acts = 0; acts <= 6; acts++) {
             for (int undos = 0; undos <= 5; undos++) {
                 for (int more = 0; more <= 6; more++) {
@@ -103,7 +104,8 @@ final class EdgesOfHistory {
         for (String act : acts) {
             Run run = e.run("").text(THREE_TEXT).calls(THREE).calls(act).calls("count(13)=4 undo()=3 count(13)=3");
             e.same("what is told after " + act + " and undo()", run.told().butHistory(), before);
-            e.run("").text(THREE_TEXT).calls(THREE + act).calls("2*undo() count(13)=2 undo()=1 count(8)=0 undo()=0 count(2)=10");
+            e.run("").text(THREE_TEXT).calls(THREE + act).calls("2*undo() count(13)=2 undo()=1 count(8)=0 undo()=0"
+                    + " count(2)=10");
         }
     }
 
@@ -133,8 +135,8 @@ final class EdgesOfHistory {
 
     private void states() {
         e.sentence(HISTORY, "A state is everything but the text, the history and the snapshot");
-        e.run("type(55)=1 keep()=0 pass(1)=0 type(62)=2 undo()=0 count(14)=2 type(42)=3 restore()=0 count(14)=3 clearText()=3"
-                + " restore()=0 count(14)=0 undo()=1 count(14)=0");
+        e.run("type(55)=1 keep()=0 pass(1)=0 type(62)=2 undo()=0 count(14)=2 type(42)=3 restore()=0 count(14)=3"
+                + " clearText()=3 restore()=0 count(14)=0 undo()=1 count(14)=0");
         e.run("set(0, 1)=60 keep()=0 set(0, 2)=1 set(0, 3)=2 count(13)=3 restore()=0 count(13)=4 count(0)=1 undo()=3"
                 + " count(0)=3 undo()=2 count(0)=2 undo()=1 count(0)=1 undo()=0 count(0)=60");
         e.run("keep()=0 pass(1)=0 keep()=1 pass(1)=0 undo()=1 undo()=0 count(4)=0 restore()=1 count(4)=1");
@@ -171,10 +173,11 @@ final class EdgesOfHistory {
         e.sentence(ERRORS, "Where several errors can apply, the order of the @return line is the order of the checks");
         e.run("join(0, 1)=1 join(8, 8)=UNKNOWN join(-1, -1)=UNKNOWN join(8, 0)=UNKNOWN join(0, 8)=UNKNOWN"
                 + " join(0, 0)=BAD_VALUE join(1, 1)=BAD_VALUE join(0, 1)=NOT_POSSIBLE");
-        e.run("frame(8, 0, 0, 0)=UNKNOWN frame(8, 1, 100, 0)=UNKNOWN frame(8, 1, 0, 4)=UNKNOWN frame(-1, 0, -1, -1)=UNKNOWN");
+        e.run("frame(8, 0, 0, 0)=UNKNOWN frame(8, 1, 100, 0)=UNKNOWN frame(8, 1, 0, 4)=UNKNOWN"
+                + " frame(-1, 0, -1, -1)=UNKNOWN");
         e.run("port(8, 8)=UNKNOWN port(-1, -1)=UNKNOWN account(8, 11)=UNKNOWN account(-1, -1)=UNKNOWN"
-                + " queued(8, -1, 0)=UNKNOWN queued(8, 0, 4)=UNKNOWN queued(-1, -1, -1)=UNKNOWN wouldGo(8, 0, 0)=UNKNOWN"
-                + " wouldGo(8, 1, 100)=UNKNOWN wouldGo(-1, 0, -1)=UNKNOWN");
+                + " queued(8, -1, 0)=UNKNOWN queued(8, 0, 4)=UNKNOWN queued(-1, -1, -1)=UNKNOWN"
+                + " wouldGo(8, 0, 0)=UNKNOWN wouldGo(8, 1, 100)=UNKNOWN wouldGo(-1, 0, -1)=UNKNOWN");
         e.sentence(ERRORS, "NONE is no error; it is returned only if no error applies");
         e.run("setPort(8, true)=UNKNOWN setPort(0, true)=NONE part(8)=UNKNOWN part(0)=NONE release(8)=UNKNOWN"
                 + " release(0)=NONE set(0, 60)=NONE set(4, 60)=BAD_VALUE forget(100)=BAD_VALUE forget(99)=NONE"
@@ -203,11 +206,11 @@ final class EdgesOfHistory {
 
     private void undo() {
         e.sentence("Promise 13", "Removes and restores the latest state of the history");
-        e.run("setPort(0, false)=7 frame(1, 1, 0, 0)=3 count(12)=6 undo()=1 count(12)=0 where(1)=NONE port(0, 0)=0 undo()=0"
-                + " port(0, 0)=1");
+        e.run("setPort(0, false)=7 frame(1, 1, 0, 0)=3 count(12)=6 undo()=1 count(12)=0 where(1)=NONE port(0, 0)=0"
+                + " undo()=0 port(0, 0)=1");
         e.sentence("Promise 13", "Returns the number of states that are left");
-        e.run("pass(1)=0 undo()=0 2*pass(1)=0 undo()=1 undo()=0 3*pass(1)=0 undo()=2 4*pass(1)=0 undo()=3 undo()=2 undo()=1"
-                + " undo()=0 undo()=NONE 5*pass(1)=0 undo()=3");
+        e.run("pass(1)=0 undo()=0 2*pass(1)=0 undo()=1 undo()=0 3*pass(1)=0 undo()=2 4*pass(1)=0 undo()=3 undo()=2"
+                + " undo()=1 undo()=0 undo()=NONE 5*pass(1)=0 undo()=3");
         e.sentence("Promise 13", "NONE if the history is empty");
         e.run("undo()=NONE undo()=NONE count(13)=0 pass(1)=0 undo()=0 undo()=NONE count(4)=0");
         e.changesNothing(Edges.BUSY_TEXT, Edges.BUSY + " 4*undo()", "undo()=NONE");
@@ -227,11 +230,11 @@ final class EdgesOfHistory {
 
     private void restore() {
         e.sentence("Promise 15", "Restores the state of the snapshot, which stays");
-        e.run("pass(1)=0 keep()=1 frame(0, 1, 1, 0)=1 restore()=1 where(1)=NONE frame(0, 2, 2, 0)=1 pass(2)=0 restore()=1"
-                + " where(2)=NONE restore()=1 count(4)=1");
+        e.run("pass(1)=0 keep()=1 frame(0, 1, 1, 0)=1 restore()=1 where(1)=NONE frame(0, 2, 2, 0)=1 pass(2)=0"
+                + " restore()=1 where(2)=NONE restore()=1 count(4)=1");
         e.sentence("Promise 15", "This is an act");
-        e.run("keep()=0 count(13)=0 restore()=0 count(13)=1 pass(1)=0 restore()=0 count(13)=3 count(4)=0 undo()=2 count(4)=1"
-                + " undo()=1 count(4)=0 undo()=0 undo()=NONE");
+        e.run("keep()=0 count(13)=0 restore()=0 count(13)=1 pass(1)=0 restore()=0 count(13)=3 count(4)=0 undo()=2"
+                + " count(4)=1 undo()=1 count(4)=0 undo()=0 undo()=NONE");
         e.act("keep()=0 pass(1)=0", "restore()");
         e.act(Edges.BUSY, "restore()");
         e.sentence("Promise 15", "Returns the clock then");

@@ -1,3 +1,7 @@
+import java.util.ArrayList;
+import java.util.Comparator;
+import java.util.List;
+
 /** The sentences of PORTS, SETTINGS and promises 1 to 6. */
 final class EdgesOfPorts {
     private final Edges e;
@@ -32,7 +36,8 @@ final class EdgesOfPorts {
         for (int port = 0; port < 8; port++) {
             e.run("setPort(%1$d, false)=7 setPort(%1$d, true)=8 part(%1$d)=NONE release(%1$d)=NONE"
                     + " frame(%1$d, 1, 1, 0)=1 port(%1$d, 0)=1 account(%1$d, 0)=1 queued(%1$d, 0, 0)=NONE"
-                    + " wouldGo(%1$d, 2, 0)=%2$d join(%1$d, %3$d)=1 count(6)=8", port, 255 - (1 << port), (port + 1) % 8);
+                    + " wouldGo(%1$d, 2, 0)=%2$d join(%1$d, %3$d)=1"
+                    + " count(6)=8", port, 255 - (1 << port), (port + 1) % 8);
         }
     }
 
@@ -87,6 +92,21 @@ final class EdgesOfPorts {
                     + " frame(%2$d, 2, 1, 0)=2 port(%1$d, 5)=9 account(%1$d, 7)=13 account(%1$d, 8)=1",
                     port, (port + 3) % 8);
         }
+        Run run = Edges.fillAllQueues(e.run(""));
+        for (int port = 0; port < 8; port++) {
+            List<Integer> numbers = new ArrayList<>();
+            for (int k = 0; k < 12; k++) {
+                numbers.add(8 * k + port);
+            }
+            numbers.sort(Comparator.comparingInt((Integer number) -> -Edges.priority(number)).thenComparing(n -> n));
+            for (int place = 0; place < 12; place++) {
+                run.calls("queued(%1$d, %2$d, 0)=%3$d queued(%1$d, %2$d, 1)=%4$d queued(%1$d, %2$d, 2)=%5$d"
+                        + " queued(%1$d, %2$d, 3)=%6$d", port, place, 11 + (port + 1) % 8, 1 + port,
+                        Edges.priority(numbers.get(place)), numbers.get(place));
+            }
+        }
+        Edges.fillAllQueues(e.run("set(3, 5)=4")).calls("count(9)=96 pass(1)=40 count(9)=56 pass(1)=40 count(9)=16"
+                + " port(0, 5)=2 port(7, 5)=2 pass(1)=16 pass(1)=0 account(0, 10)=12 account(7, 10)=12");
     }
 
     private void settings() {
@@ -147,7 +167,8 @@ final class EdgesOfPorts {
                 + " setPort(-1, true)=UNKNOWN setPort(8, true)=UNKNOWN setPort(7, true)=7 setPort(0, true)=8");
         e.sentence("Promise 2", "Sets a port up or down");
         e.sentence("Promise 2", "`up`: whether it is up then");
-        e.run("setPort(0, false)=7 port(0, 0)=0 port(0, 1)=0 port(1, 0)=1 setPort(0, true)=8 port(0, 0)=1 port(0, 1)=1");
+        e.run("setPort(0, false)=7 port(0, 0)=0 port(0, 1)=0 port(1, 0)=1 setPort(0, true)=8 port(0, 0)=1"
+                + " port(0, 1)=1");
         e.sentence("Promise 2", "When it goes down, all frames of its queue are dropped");
         for (int frames : new int[] {0, 1, 2, 11, 12}) {
             e.run("frame(0, 1, 1, 0)=1 frame(5, 5, 5, 0)=1 frame(1, 2, 5, 0)=2 %1$d*frame(1, 2, 1, 0)=2"
@@ -186,7 +207,8 @@ final class EdgesOfPorts {
             e.refused("setPort(%s, true)=UNKNOWN", no);
         }
         e.sentence("Promise 2", "NONE if it is so already");
-        e.run("setPort(0, true)=NONE setPort(0, false)=7 setPort(0, false)=NONE setPort(0, true)=8 setPort(0, true)=NONE");
+        e.run("setPort(0, true)=NONE setPort(0, false)=7 setPort(0, false)=NONE setPort(0, true)=8"
+                + " setPort(0, true)=NONE");
         e.refused("setPort(7, false)=NONE");
         e.refused("setPort(0, true)=NONE");
         e.refused("setPort(4, true)=NONE");

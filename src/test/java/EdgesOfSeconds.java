@@ -29,9 +29,9 @@ final class EdgesOfSeconds {
         // What comes in at a port waits for the next second.
         e.run(ON_A_CABLE + "pass(1)=1 port(0, 5)=1 account(0, 9)=1 pass(1)=1 account(0, 9)=2 pass(10)=10 port(0, 5)=1");
         // A port whose quarantine begins as frames come in has sent already.
-        e.run("set(2, 1)=10 join(0, 1)=1 frame(0, 1, 1, 0)=1 frame(1, 5, 5, 0)=1 2*frame(2, 9, 1, 0)=2 frame(2, 9, 5, 0)=2"
-                + " forget(1)=0 pass(1)=3 account(1, 9)=1 account(0, 9)=2 port(1, 3)=2 port(1, 5)=0 account(0, 0)=2"
-                + " account(0, 4)=1");
+        e.run("set(2, 1)=10 join(0, 1)=1 frame(0, 1, 1, 0)=1 frame(1, 5, 5, 0)=1 2*frame(2, 9, 1, 0)=2"
+                + " frame(2, 9, 5, 0)=2 forget(1)=0 pass(1)=3 account(1, 9)=1 account(0, 9)=2 port(1, 3)=2"
+                + " port(1, 5)=0 account(0, 0)=2 account(0, 4)=1");
     }
 
     private void comingInBeforeTheClock() {
@@ -48,7 +48,8 @@ final class EdgesOfSeconds {
         e.run(ON_A_CABLE + "part(0)=1 join(0, 1)=1 pass(1)=1 entry(1, 0)=2 entry(1, 1)=1 entry(1, 2)=1 entry(1, 3)=1"
                 + " part(0)=1 pass(8) entry(1, 3)=1 entry(1, 2)=9 pass(1) entry(1, 3)=0");
         // The floods of the second count with those that come in at its end.
-        String floods = " join(0, 1)=1 frame(0, 1, 1, 0)=1 frame(2, 9, 1, 0)=2 forget(1)=0 frame(1, 8, 0, 0)=3 pass(1)=8 ";
+        String floods = " join(0, 1)=1 frame(0, 1, 1, 0)=1 frame(2, 9, 1, 0)=2 forget(1)=0 frame(1, 8, 0, 0)=3"
+                + " pass(1)=8 ";
         e.run("set(2, 1)=10" + floods + "port(1, 3)=2 account(1, 4)=1 account(1, 5)=1 account(1, 1)=1 port(1, 7)=0");
         e.run("set(2, 2)=10" + floods + "port(1, 3)=2 account(1, 4)=2 account(1, 5)=1 account(1, 1)=0 port(1, 7)=0");
         e.run("set(2, 3)=10" + floods + "port(1, 3)=0 account(1, 4)=3 account(1, 5)=0 account(1, 1)=0 port(1, 7)=0");
@@ -61,12 +62,13 @@ final class EdgesOfSeconds {
             for (int frames = 0; frames <= 12; frames++) {
                 int sent = Math.min(rate, frames);
                 e.run("set(3, %1$d) frame(0, 1, 1, 0)=1 %2$d*frame(1, 2, 1, 0)=2 pass(1)=%3$d account(0, 9)=%3$d"
-                        + " account(0, 10)=%3$d port(0, 5)=%4$d queued(0, 0, 3)=%5$s", rate, frames, sent, frames - sent,
+                        + " account(0, 10)=%3$d port(0, 5)=%4$d"
+                        + " queued(0, 0, 3)=%5$s", rate, frames, sent, frames - sent,
                         sent < frames ? "" + sent : "NONE");
             }
         }
-        e.run("frame(0, 1, 1, 0)=1 frame(7, 2, 2, 0)=1 12*frame(1, 3, 1, 0)=2 5*frame(1, 3, 2, 0)=2 pass(1)=8 port(0, 5)=8"
-                + " port(7, 5)=1 pass(1)=5 pass(1)=4 pass(1)=0");
+        e.run("frame(0, 1, 1, 0)=1 frame(7, 2, 2, 0)=1 12*frame(1, 3, 1, 0)=2 5*frame(1, 3, 2, 0)=2 pass(1)=8"
+                + " port(0, 5)=8 port(7, 5)=1 pass(1)=5 pass(1)=4 pass(1)=0");
         e.run("frame(0, 1, 0, 0)=3 pass(1)=7 account(0, 9)=0 account(1, 9)=1 account(7, 9)=1 count(9)=0");
         // A port that is not open sends nothing.
         e.run("set(2, 1)=10 frame(0, 1, 0, 0)=3 frame(3, 2, 0, 0)=3 frame(3, 2, 0, 0)=5 port(3, 5)=1 pass(1)=13"
@@ -89,7 +91,8 @@ final class EdgesOfSeconds {
     }
 
     private void cables() {
-        e.sentence(SECONDS, "If a cable is on the port, the frame is on its way to the other end (be that open or not);");
+        e.sentence(SECONDS, "If a cable is on the port, the frame is on its way to the other end (be that open or"
+                + " not);");
         e.run(ON_A_CABLE + "pass(1)=1 account(0, 9)=1 account(0, 10)=0 account(1, 0)=1 account(1, 1)=0 account(1, 3)=1"
                 + " count(10)=3");
         e.run(ON_A_CABLE + "setPort(1, false)=7 pass(1)=1 account(0, 9)=1 account(0, 10)=0 account(1, 0)=1"
@@ -99,27 +102,35 @@ final class EdgesOfSeconds {
         e.run("join(0, 1)=1 frame(0, 1, 1, 0)=1 frame(1, 2, 2, 0)=1 frame(3, 3, 1, 0)=2 frame(3, 4, 2, 0)=2 pass(1)=2"
                 + " where(3)=1 where(4)=0 account(0, 0)=2 account(1, 0)=2");
         e.sentence(SECONDS, "otherwise it is delivered");
-        e.run("frame(0, 1, 1, 0)=1 frame(2, 2, 1, 0)=2 pass(1)=1 account(0, 9)=1 account(0, 10)=1 count(10)=2 where(2)=2");
+        e.run("frame(0, 1, 1, 0)=1 frame(2, 2, 1, 0)=2 pass(1)=1 account(0, 9)=1 account(0, 10)=1 count(10)=2"
+                + " where(2)=2");
         e.run(ON_A_CABLE + "part(1)=0 pass(1)=1 account(0, 10)=1 account(1, 0)=0 count(9)=0");
     }
 
     private void orderOfSending() {
         e.sentence(SECONDS, "Frames on their way come in at the other ends, in the order in which they were sent");
         // Those of port 0 come in first, be the other end's number, the priority and the frame's number as they may.
-        e.run("join(0, 7)=1 join(1, 6)=2 frame(0, 1, 1, 0)=1 frame(1, 2, 2, 0)=1 frame(4, 4, 2, 3)=2 frame(4, 3, 1, 0)=2"
-                + " forget(1)=0 forget(2)=1 pass(1)=2 queued(5, 0, 0)=4 queued(5, 0, 3)=14 queued(5, 1, 0)=3"
-                + " queued(5, 1, 3)=7");
-        e.run("join(0, 6)=1 join(1, 7)=2 frame(0, 1, 1, 0)=1 frame(1, 2, 2, 0)=1 frame(4, 4, 2, 3)=2 frame(4, 3, 1, 0)=2"
-                + " forget(1)=0 forget(2)=1 pass(1)=2 queued(5, 0, 3)=14 queued(5, 1, 3)=7");
+        e.run("join(0, 7)=1 join(1, 6)=2 frame(0, 1, 1, 0)=1 frame(1, 2, 2, 0)=1 frame(4, 4, 2, 3)=2"
+                + " frame(4, 3, 1, 0)=2 forget(1)=0 forget(2)=1 pass(1)=2 queued(5, 0, 0)=4 queued(5, 0, 3)=14"
+                + " queued(5, 1, 0)=3 queued(5, 1, 3)=7");
+        e.run("join(0, 6)=1 join(1, 7)=2 frame(0, 1, 1, 0)=1 frame(1, 2, 2, 0)=1 frame(4, 4, 2, 3)=2"
+                + " frame(4, 3, 1, 0)=2 forget(1)=0 forget(2)=1 pass(1)=2 queued(5, 0, 3)=14 queued(5, 1, 3)=7");
+        // As many as can be on their way at once all come in.
+        Run run = Edges.fillAllQueues(e.run("set(3, 10)=4 join(0, 1)=1 join(2, 3)=2 join(4, 5)=3 join(6, 7)=4"))
+                .calls("count(10)=104 pass(1)=80 count(10)=184");
+        for (int port = 0; port < 8; port++) {
+            run.calls("account(%1$d, 0)=23 account(%1$d, 9)=10 account(%1$d, 10)=0 port(%1$d, 5)=12", port);
+        }
         // The first one that comes in begins a quarantine: those behind it are turned away.
-        e.run("set(2, 1)=10 join(0, 1)=1 frame(0, 1, 1, 0)=1 frame(2, 8, 8, 0)=1 frame(2, 9, 1, 0)=2 frame(2, 9, 1, 3)=2"
-                + " frame(2, 8, 1, 1)=2 forget(1)=0 pass(1)=3 account(1, 4)=1 account(1, 5)=1 account(1, 1)=1"
-                + " account(1, 0)=3 where(9)=NONE where(8)=NONE");
+        e.run("set(2, 1)=10 join(0, 1)=1 frame(0, 1, 1, 0)=1 frame(2, 8, 8, 0)=1 frame(2, 9, 1, 0)=2"
+                + " frame(2, 9, 1, 3)=2 frame(2, 8, 1, 1)=2 forget(1)=0 pass(1)=3 account(1, 4)=1 account(1, 5)=1"
+                + " account(1, 1)=1 account(1, 0)=3 where(9)=NONE where(8)=NONE");
     }
 
     private void clock() {
         e.sentence(SECONDS, "The clock, which is 0 at first, goes on by 1");
-        e.run("count(4)=0 pass(1)=0 count(4)=1 pass(1)=0 count(4)=2 pass(10)=0 count(4)=12 pass(9)=0 count(4)=21 keep()=21");
+        e.run("count(4)=0 pass(1)=0 count(4)=1 pass(1)=0 count(4)=2 pass(10)=0 count(4)=12 pass(9)=0 count(4)=21"
+                + " keep()=21");
     }
 
     private void quarantinesEnd() {
@@ -142,8 +153,9 @@ final class EdgesOfSeconds {
                     .calls("where(1)=NONE where(99)=NONE where(50)=%s", age == 1 ? "NONE" : "3")
                     .calls("port(0, 6)=0 port(7, 6)=0 count(5)=%d", age == 1 ? 0 : 1);
         }
-        e.run("frame(0, 1, 1, 0)=1 pass(1)=0 frame(0, 2, 2, 0)=1 pass(1)=0 frame(0, 3, 3, 0)=1 pass(1)=0 frame(0, 4, 4, 0)=1"
-                + " set(0, 3)=60 count(5)=4 pass(1)=0 where(1)=NONE where(2)=NONE where(3)=0 where(4)=0 count(5)=2");
+        e.run("frame(0, 1, 1, 0)=1 pass(1)=0 frame(0, 2, 2, 0)=1 pass(1)=0 frame(0, 3, 3, 0)=1 pass(1)=0"
+                + " frame(0, 4, 4, 0)=1 set(0, 3)=60 count(5)=4 pass(1)=0 where(1)=NONE where(2)=NONE where(3)=0"
+                + " where(4)=0 count(5)=2");
     }
 
     private void floodsBeginAnew() {
@@ -153,7 +165,10 @@ final class EdgesOfSeconds {
                     + " 2*frame(%1$d, 1, 0, 0)=3 port(%1$d, 7)=2 frame(%1$d, 1, 0, 0)=5 port(%1$d, 7)=2 pass(1)=14"
                     + " port(%1$d, 7)=0 release(%1$d)=29 frame(%1$d, 1, 0, 0)=3 port(%1$d, 7)=1", port);
         }
-        e.run("frame(0, 1, 0, 0)=3 2*frame(7, 2, 0, 0)=3 port(0, 7)=1 port(7, 7)=2 pass(2)=21 port(0, 7)=0 port(7, 7)=0");
+        e.run("frame(3, 1, 0, 0)=3 setPort(3, false)=7 port(3, 7)=1 pass(1)=7 port(3, 7)=0 setPort(3, true)=8"
+                + " 10*frame(3, 1, 0, 0)=3 frame(3, 1, 0, 0)=5");
+        e.run("frame(0, 1, 0, 0)=3 2*frame(7, 2, 0, 0)=3 port(0, 7)=1 port(7, 7)=2 pass(2)=21 port(0, 7)=0"
+                + " port(7, 7)=0");
     }
 
     private void pass() {

@@ -39,8 +39,8 @@ final class EdgesOfTexts {
         e.sentence(TEXTS, "There is a text of at most 70 characters, empty at first");
         e.run("count(14)=0 clearText()=0 readFrames()=-100");
         text(LONGEST.substring(0, 68)).calls("count(14)=68 type(64)=69 count(14)=69 type(55)=70 count(14)=70"
-                + " type(59)=NOT_POSSIBLE count(14)=70 readFrames()=8 type(49)=NOT_POSSIBLE readFrames()=8 clearText()=70"
-                + " count(14)=0 type(49)=1");
+                + " type(59)=NOT_POSSIBLE count(14)=70 readFrames()=8 type(49)=NOT_POSSIBLE readFrames()=8"
+                + " clearText()=70 count(14)=0 type(49)=1");
     }
 
     private void frames() {
@@ -61,9 +61,12 @@ final class EdgesOfTexts {
 
     private void parts() {
         e.sentence(TEXTS, "A frame is: its source; \">\"; its destination, or \"*\" for all;");
-        text("7>8@1").calls("readFrames()=1 queued(0, 0, 0)=7 queued(0, 0, 1)=8 queued(0, 0, 2)=0 account(1, 4)=1 where(7)=1");
-        text("7>*@1").calls("readFrames()=1 queued(0, 0, 0)=7 queued(0, 0, 1)=0 queued(0, 0, 2)=0 account(1, 4)=1 where(7)=1");
-        text("8>8@0;7>*@1;7>8@1").calls("readFrames()=3 account(1, 4)=1 account(1, 3)=1 queued(0, 0, 1)=0 queued(0, 1, 1)=8");
+        text("7>8@1").calls("readFrames()=1 queued(0, 0, 0)=7 queued(0, 0, 1)=8 queued(0, 0, 2)=0 account(1, 4)=1"
+                + " where(7)=1");
+        text("7>*@1").calls("readFrames()=1 queued(0, 0, 0)=7 queued(0, 0, 1)=0 queued(0, 0, 2)=0 account(1, 4)=1"
+                + " where(7)=1");
+        text("8>8@0;7>*@1;7>8@1").calls("readFrames()=3 account(1, 4)=1 account(1, 3)=1 queued(0, 0, 1)=0"
+                + " queued(0, 1, 1)=8");
         e.sentence(TEXTS, "if its priority is not to be 0, \"!\" and its digit (0 to 3; \"!0\" can stand, too);");
         text("7>8!-1@1").calls("readFrames()=-104");
         text("7>8!/@1").calls("readFrames()=-104");
@@ -173,8 +176,8 @@ final class EdgesOfTexts {
         e.run("type(55)=1 type(62)=2 type(42)=3 type(64)=4 type(49)=5 readFrames()=1 queued(0, 0, 0)=7 account(1, 0)=1"
                 + " count(13)=1 type(59)=6 readFrames()=-106 count(13)=1");
         e.sentence("Promise 10", "`character`: any character");
-        e.run("type(0)=1 type(127)=2 type(128)=3 type(255)=4 type(256)=5 type(65535)=6 type(10)=7 count(14)=7 count(13)=0"
-                + " readFrames()=-100 clearText()=7");
+        e.run("type(0)=1 type(127)=2 type(128)=3 type(255)=4 type(256)=5 type(65535)=6 type(10)=7 count(14)=7"
+                + " count(13)=0 readFrames()=-100 clearText()=7");
         e.sentence("Promise 10", "Returns the length of the text then");
         e.sentence("Promise 10", "NOT_POSSIBLE if it has 70 characters");
         Run run = e.run("");
@@ -201,8 +204,8 @@ final class EdgesOfTexts {
 
     private void readFrames() {
         e.sentence("Promise 12", "Lets all frames of the text, which stays, come in, in their order");
-        text("7>8@1;8>7!2@2").calls("readFrames()=2 account(1, 4)=1 account(2, 3)=1 where(7)=1 where(8)=2 queued(1, 0, 2)=2"
-                + " count(14)=13 readFrames()=2 account(1, 3)=1 account(2, 3)=2 count(14)=13");
+        text("7>8@1;8>7!2@2").calls("readFrames()=2 account(1, 4)=1 account(2, 3)=1 where(7)=1 where(8)=2"
+                + " queued(1, 0, 2)=2 count(14)=13 readFrames()=2 account(1, 3)=1 account(2, 3)=2 count(14)=13");
         text("8>7!2@2;7>8@1").calls("readFrames()=2 account(2, 4)=1 account(1, 3)=1 queued(1, 0, 3)=1");
         text("7>*@0;7>*@1;7>*@2;7>*@3;7>*@4").calls("readFrames()=5 where(7)=4 port(3, 3)=1 port(3, 1)=0 port(2, 1)=1"
                 + " account(3, 5)=1 account(4, 4)=1");
@@ -217,7 +220,8 @@ final class EdgesOfTexts {
         text("1>2@1;1>2@2;1>2@3").calls("setPort(2, false)=7 readFrames()=2 setPort(3, false)=6 readFrames()=1"
                 + " setPort(1, false)=5 readFrames()=0 count(13)=4");
         text("7>*@1;7>*@1;7>*@1").calls("set(2, 1)=10 readFrames()=2 account(1, 4)=1 account(1, 5)=1 account(1, 1)=1");
-        text("7>7@1;8>8@2;7>8@1").calls("readFrames()=3 account(1, 2)=1 account(1, 3)=1 setPort(2, false)=7 clearText()=17")
+        text("7>7@1;8>8@2;7>8@1").calls("readFrames()=3 account(1, 2)=1 account(1, 3)=1 setPort(2, false)=7"
+                + " clearText()=17")
                 .text("7>8@1").calls("readFrames()=1 account(1, 6)=1");
     }
 
