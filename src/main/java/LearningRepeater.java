@@ -716,7 +716,7 @@ public final class LearningRepeater {
 
     /** Frames that are about to come in, with the port of each. */
     private static final class Arrivals {
-        // No port sends more in a second than its queue holds, and a text has room for 12 frames at most.
+        // No port sends more in a second than its queue holds, and a text has room for 11 frames at most.
         private static final int MOST = PORTS * PLACES;
         private final Row parts = new Row(MOST * PARTS);
         private int size;
